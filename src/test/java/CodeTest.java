@@ -103,7 +103,7 @@ public final class CodeTest {
     }
 
     private static void tooMuch() {
-        // 14 lines of 57 bytes are 14 * 76 + 13 * 2 bytes; 19 lines would be 1480, and one group more 1486
+        // 57 bytes a line: 19 lines are 19 * 76 and 18 times 13 10
         Checks.due("19 lines", Checks.withTape("A".repeat(57 * 19)).code(1), 1480);
         Checks.due("20 lines that go", Checks.withTape("A".repeat(57 * 19 + 12)).code(1), 1498);
         refused(1, "A".repeat(57 * 19 + 13));

@@ -126,13 +126,7 @@ public final class WriteTest {
         due(7, full, "a\0".repeat(750));
         due(5, full, "\u00fe\u00ff" + "\0a".repeat(749));
 
-        Checks.due("1500 of LATIN1 in UTF8", latin1(1500, 233).write(4), 1500);
-        MailCharacters x = latin1(1499, 233);
-        Checks.add(x, 'a');
-        x = latin1(1500, 'a');
-        Checks.due("UTF7 of 1500", x.write(9), 1500);
-
-        dueWidth("a".repeat(1498) + "\u00e9", 4, 1500);
+        Checks.due("1500 of LATIN1 in UTF8", latin1("\u00e9".repeat(1500)).write(4), 1500);
         endsAheadInUtf8();
         endsAheadInUtf16();
         endsAheadInUtf7();
@@ -140,14 +134,6 @@ public final class WriteTest {
 
     private static void dueWidth(String text, int charset, int want) {
         Checks.due("write(" + charset + ") of " + text.length(), Checks.withText(text).write(charset), want);
-    }
-
-    private static MailCharacters latin1(int n, int b) {
-        int[] row = new int[n];
-        java.util.Arrays.fill(row, b);
-        MailCharacters x = Checks.withTape(row);
-        x.read(1);
-        return x;
     }
 
     /** A text of LATIN1 takes more bytes in UTF8 than it had. */
