@@ -229,7 +229,7 @@ public final class MailCharacters {
         }
     }
 
-    /** Bits that come in one width and go in another; at most some twenty wait at a time. */
+    /** Bits that come in one width and go in another; at most 21 wait at a time, older ones are shifted away. */
     private static final class Bits {
         private int value;
         private int held;
@@ -250,9 +250,7 @@ public final class MailCharacters {
 
         int take(int width) {
             held -= width;
-            int taken = value >> held & lowBits(width);
-            value = value & lowBits(held);
-            return taken;
+            return value >> held & (1 << width) - 1;
         }
 
         /** Fills what is left over up with bits 0. */
@@ -260,10 +258,6 @@ public final class MailCharacters {
             if (held > 0 && held < width) {
                 add(0, width - held);
             }
-        }
-
-        private static int lowBits(int width) {
-            return (1 << width) - 1;
         }
     }
 
@@ -418,10 +412,8 @@ public final class MailCharacters {
             return true;
         }
 
+        /** A start holds no line's end, so a shorter line differs from it at its own end. */
         boolean begins(Row in, String start) {
-            if (to - from < start.length()) {
-                return false;
-            }
             for (int k = 0; k < start.length(); k++) {
                 if (in.get(from + k) != start.charAt(k)) {
                     return false;
@@ -775,7 +767,7 @@ public final class MailCharacters {
     /** Makes bytes to characters. */
     private static final class Reader {
         private final Bits bits = new Bits();
-        /** The first half of a pair that waits for its second; 0 if none waits. */
+        /** The first half of a pair that waits for its second; 0 if none waits, as always between two calls. */
         private int firstHalf;
 
         void readInto(Row in, int from, int to, int charset, Row text) {
@@ -876,7 +868,6 @@ public final class MailCharacters {
         }
 
         private void readUtf16(Row in, int from, int to, boolean higherFirst, Row text) {
-            firstHalf = 0;
             for (int i = from; i + 1 < to; i += 2) {
                 int one = in.get(i);
                 int other = in.get(i + 1);
@@ -891,7 +882,6 @@ public final class MailCharacters {
         private void readUtf7(Row in, int from, int to, Row text) {
             boolean inRun = false;
             boolean runEmpty = true;
-            firstHalf = 0;
             for (int i = from; i < to; i++) {
                 int b = in.get(i);
                 int sixBits = inRun ? Letters.sixBitsOf(b) : NONE;
@@ -1142,14 +1132,17 @@ public final class MailCharacters {
                 return false;
             }
             int nameEnd = endOfName(in, i + 2);
-            charset = Names.charsetOf(in, i + 2, starOrEnd(in, i + 2, nameEnd));
-            if (charset == NONE || !takesKind(in.get(nameEnd + 1)) || in.get(nameEnd + 2) != '?') {
+            if (!takesKind(in.get(nameEnd + 1)) || in.get(nameEnd + 2) != '?') {
                 return false;
             }
             from = nameEnd + 3;
             to = endOfBytes(in, from);
             next = to + 2;
-            return in.get(to) == '?' && in.get(to + 1) == '=';
+            if (in.get(to) != '?' || in.get(to + 1) != '=') {
+                return false;
+            }
+            charset = Names.charsetOf(in, i + 2, starOrEnd(in, i + 2, nameEnd));
+            return charset != NONE;
         }
 
         private boolean takesKind(int b) {

@@ -143,6 +143,9 @@ public final class ReadTest {
         due(6, row(216, 0, 220, 0, 219, 255, 223, 255), 65536, 1114111);
         due(6, row(216, 0), BAD);
         due(6, row(220, 0), BAD);
+        due(6, row(220, 0, 220, 0), BAD, BAD);
+        due(6, row(223, 255, 220, 0), BAD, BAD);
+        due(6, row(219, 255, 219, 255), BAD, BAD);
         due(6, row(216, 0, 0, 65), BAD, 65);
         due(6, row(220, 0, 216, 0), BAD, BAD);
         due(6, row(216, 0, 216, 0, 220, 0), BAD, 65536);
@@ -208,6 +211,7 @@ public final class ReadTest {
         due(9, row('+', 'A', 'O', 'k', 200), 233, BAD);
         due(9, "+2D3eAA-", 128512);
         due(9, "+2D0-", BAD);
+        due(9, "+2D0", BAD);
         due(9, "+3gA-", BAD);
         due(9, "+2D0-+3gA-", BAD, BAD);
         due(9, "+2D0-x", BAD, 'x');

@@ -16,8 +16,9 @@ public final class TapeTest {
         Checks.due("end(20)", x.end(20), 20);
         Checks.dueRow("bytes in their order", Checks.tape(x),
                 1, 2, 3, 4, 127, 128, 255, 0, 255, 255, 255, 255, 128, 0, 0, 0, 10, 11, 12, 13);
-        Checks.due("end(3) again", x.end(3), 23);
-        Checks.due("ready bytes are 0 behind an end", x.byteAt(20) + x.byteAt(21) + x.byteAt(22), 0);
+        x.charset();
+        Checks.due("end(20) again", x.end(20), 20);
+        Checks.dueRow("ready bytes are 0 behind an end", Checks.tape(x), new int[20]);
 
         x = new MailCharacters();
         x.feed(0x41424344, 0x45464748, 0, 0, 0);

@@ -147,6 +147,7 @@ public final class WriteTest {
         MailCharacters x = latin1("a" + "\u00e9".repeat(749) + "\u00e9b");
         Checks.due("UTF8 ends ahead of two bytes for one", x.write(4), 1499);
         Checks.due("and nothing behind it comes", x.byteAt(1498), 169);
+        dueWidth("a".repeat(1496) + of(128512), 4, 1500);
         Checks.due("UTF8 of what just goes", latin1("ab" + "\u00e9".repeat(749)).write(4), 1500);
         x = Checks.withTape("\u0080".repeat(1500));
         x.read(3);
@@ -170,6 +171,8 @@ public final class WriteTest {
     private static void endsAheadInUtf7() {
         Checks.due("a RUN that goes, 1500", latin1("a".repeat(1495) + "\u00e9").write(9), 1500);
         Checks.due("a RUN that does not go", latin1("a".repeat(1496) + "\u00e9a").write(9), 1496);
+        Checks.due("a RUN of three that goes", latin1("a".repeat(1490) + "\u00e9\u00e9\u00e9a").write(9), 1500);
+        Checks.due("a RUN of three that does not go", latin1("a".repeat(1491) + "\u00e9\u00e9\u00e9a").write(9), 1491);
         Checks.due("a RUN of two that does not go", latin1("a".repeat(1493) + "\u00e9\u00e9a").write(9), 1493);
         Checks.due("a RUN of two that goes", latin1("a".repeat(1492) + "\u00e9\u00e9a").write(9), 1500);
         Checks.due("+ that goes", latin1("a".repeat(1498) + "+").write(9), 1500);
