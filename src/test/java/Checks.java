@@ -5,12 +5,28 @@ import java.util.Arrays;
 final class Checks {
     private static int made = 0;
     private static int wrong = 0;
+    private static String sentence = "";
+    private static int madeAhead = 0;
 
     private Checks() {
     }
 
     interface Call {
         int answer();
+    }
+
+    /** What follows tests these words of the document, each side of their boundary by a check at least. */
+    static void sentence(String words) {
+        endSentence();
+        sentence = words;
+        madeAhead = made;
+    }
+
+    private static void endSentence() {
+        if (!sentence.isEmpty() && made - madeAhead < 2) {
+            wrong++;
+            System.out.println("fewer than two checks for: " + sentence);
+        }
     }
 
     static void due(String what, long got, long want) {
@@ -48,6 +64,7 @@ final class Checks {
     }
 
     static void finish() {
+        endSentence();
         System.out.println(made + " checks, " + wrong + " wrong");
         if (wrong != 0 || made == 0) {
             System.exit(1);
@@ -87,6 +104,49 @@ final class Checks {
             if (x.end(n) == MailCharacters.NONE) {
                 throw new IllegalStateException("the tape took no more");
             }
+        }
+    }
+
+    /** The tape, and the places just beside it; of a long one both ends, as an object is good for 512 calls alone. */
+    static void dueTape(String what, MailCharacters x, String want) {
+        due(what + ", count(0)", x.count(0), want.length());
+        for (int k = 0; k < want.length(); k++) {
+            if (k < 120 || k >= want.length() - 120) {
+                due(what + ", byteAt(" + k + ")", x.byteAt(k), want.charAt(k));
+            }
+        }
+        due(what + ", byte ahead of the first", x.byteAt(-1), MailCharacters.NONE);
+        due(what + ", byte behind the last", x.byteAt(want.length()), MailCharacters.NONE);
+    }
+
+    static void dueText(String what, MailCharacters x, int... want) {
+        due(what + ", count(1)", x.count(1), want.length);
+        for (int k = 0; k < want.length; k++) {
+            if (k < 120 || k >= want.length - 120) {
+                due(what + ", at(" + k + ")", x.at(k), want[k]);
+            }
+        }
+        due(what + ", count(2)", x.count(2), Arrays.stream(want).filter(c -> c == 65533).count());
+        due(what + ", character ahead of the first", x.at(-1), MailCharacters.NONE);
+        due(what + ", character behind the last", x.at(want.length), MailCharacters.NONE);
+    }
+
+    /** An object with something in each of its three rows: ready bytes, tape and text. */
+    static MailCharacters holding(String tape) {
+        MailCharacters x = withTape(233, 65, 200);
+        x.read(0);
+        add(x, tape);
+        x.feed(0x52454144, 0x59000000, 0, 0, 0);
+        return x;
+    }
+
+    /** That a refused call left all three rows of such an object as they were. */
+    static void dueHeld(String what, MailCharacters x, String tape) {
+        dueTape(what + ", the tape stays", x, tape);
+        dueText(what + ", the text stays", x, 65533, 65, 65533);
+        if (tape.length() <= 1495) {
+            due(what + ", the ready bytes come", x.end(5), tape.length() + 5);
+            dueTape(what + ", the ready bytes stayed", x, tape + "READY");
         }
     }
 
@@ -139,7 +199,8 @@ final class Checks {
 
     private static void tell(String what, String got, String want) {
         wrong++;
-        System.out.println(what + ": got " + got + ", due is " + want);
+        System.out.println(what + ": got " + got + ", due is " + want
+                + (sentence.isEmpty() ? "" : " (" + sentence + ")"));
     }
 
     static String shown(String s) {
