@@ -1,6 +1,7 @@
 /** The boundary cases that the document names for codings made: promise 9. */
 public final class CodeEdgesTest {
     public static void main(String[] args) {
+        letters();
         lettersOfALine();
         equalsAtTheEnd();
         themselves();
@@ -27,6 +28,15 @@ public final class CodeEdgesTest {
 
     private static String x(int times) {
         return "x".repeat(times);
+    }
+
+    private static void letters() {
+        Checks.sentence("A .. Z a .. z 0 .. 9 + / are 0 .. 63");
+        String all = "ABCDEFGHIJKLMNOPQRSTUVWXYZabcdefghijklmnopqrstuvwxyz0123456789+/";
+        for (int value = 0; value < 64; value++) {
+            due(1, "\0\0" + (char) value, "AAA" + all.charAt(value));
+            due(1, "" + (char) (value * 4), all.charAt(value) + "A==");
+        }
     }
 
     private static void lettersOfALine() {

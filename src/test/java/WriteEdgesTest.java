@@ -182,6 +182,11 @@ public final class WriteEdgesTest {
         due(4, row(65535), 239, 191, 191);
         due(4, row(65536), 240, 144, 128, 128);
         due(4, row(1114111), 244, 143, 191, 191);
+        due(4, row(233, 8364, 128512), 195, 169, 226, 130, 172, 240, 159, 152, 128);
+        for (int bit = 0; bit < 20; bit++) {
+            int c = 65536 + (1 << bit);
+            due(4, row(c), 240 | c >> 18, 128 | c >> 12 & 63, 128 | c >> 6 & 63, 128 | c & 63);
+        }
     }
 
     private static void utf16Mark() {
